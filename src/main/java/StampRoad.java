@@ -958,7 +958,7 @@ public final class StampRoad {
         }
 
         /** Sets the letters for a CLERK, a FILE that is under way, and a price. */
-        void face(int i, int j, int x) {
+        void face(int i, int j, int given) {
             int[] letters = reckoner.letters;
             int s = step[j];
             letters[Reckoner.RIGHT] = land.right[j];
@@ -972,7 +972,7 @@ public final class StampRoad {
             letters[Reckoner.NUMBER] = standing[s];
             letters[Reckoner.TOOK] = tookBefore;
             letters[Reckoner.MONTH] = now;
-            letters[Reckoner.PRICE] = x;
+            letters[Reckoner.PRICE] = given;
         }
 
         /** What the FILE pays to the CLERK who serves it in this MONTH. */
@@ -1001,14 +1001,14 @@ public final class StampRoad {
             return land.right[j] == 0 || toWait > 0 && price <= land.haste[j] * toWait;
         }
 
-        private void give(int i, int j, int x) {
-            face(i, j, x);
+        private void give(int i, int j, int given) {
+            face(i, j, given);
             int giverPays = reckoner.pick(land.law, 'g', MOST_COIN);
             int takerPays = reckoner.pick(land.law, 'k', MOST_COIN);
             int back = reckoner.pick(land.law, 'b', MOST_COIN);
-            coin[j] -= x;
-            paid[j] += x;
-            has[i] += x;
+            coin[j] -= given;
+            paid[j] += given;
+            has[i] += given;
             took[i]++;
             takers |= 1 << i;
             if (back > giverPays) {
@@ -1186,6 +1186,7 @@ public final class StampRoad {
                     return set;
                 }
                 if (set == before) {
+                    // Some changed back and forth within the round: so it goes on for ever.
                     return NEVER;
                 }
             }

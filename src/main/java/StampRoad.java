@@ -1175,19 +1175,14 @@ public final class StampRoad {
             int set = from;
             for (int round = 0; round < MOST_ROUNDS; round++) {
                 int before = set;
-                boolean changes = false;
                 for (int i = 0; i < land.clerks; i++) {
                     if (wantsOtherwise(i, set)) {
                         set ^= 1 << i;
-                        changes = true;
                     }
                 }
-                if (!changes) {
-                    return set;
-                }
+                // Each had one turn: the set is the same only if nobody changed.
                 if (set == before) {
-                    // Some changed back and forth within the round: so it goes on for ever.
-                    return NEVER;
+                    return set;
                 }
             }
             return NEVER;

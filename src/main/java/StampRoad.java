@@ -116,8 +116,7 @@ public final class StampRoad {
         int answer = parser.readSum(n);
         tape.used = 0;
         if (answer > 0) {
-            rests.gain = parser.swapFor(rests.gain);
-            rests.hasGain = true;
+            rests.replaceGain(parser.swapFor(rests.gain));
         }
         return answer;
     }
@@ -1111,13 +1110,28 @@ public final class StampRoad {
         boolean hasGain;
         /** GAIN of each CLERK by how many others take: nothing else of a set matters to it. */
         private final int[][] gains = new int[MOST_CLERKS][MOST_CLERKS];
+        /** Where one round leads from each set, NONE if that was not asked yet: many ways lead over the same sets. */
+        private final int[] after = new int[1 << MOST_CLERKS];
+        /** For how many CLERKS all this was learnt; their PAY and FEAR never change. */
+        private int learntFor = NONE;
 
         Rests(Land land, Reckoner reckoner) {
             this.land = land;
             this.reckoner = reckoner;
         }
 
+        void replaceGain(Text text) {
+            gain = text;
+            hasGain = true;
+            learntFor = NONE;
+        }
+
         void learnWants() {
+            if (learntFor == land.clerks) {
+                return;
+            }
+            learntFor = land.clerks;
+            Arrays.fill(after, NONE);
             int[] letters = reckoner.letters;
             Arrays.fill(letters, 0);
             letters[Reckoner.NUMBER] = land.clerks;
@@ -1174,18 +1188,27 @@ public final class StampRoad {
         int settle(int from) {
             int set = from;
             for (int round = 0; round < MOST_ROUNDS; round++) {
-                int before = set;
+                int next = behindRound(set);
+                // Each had one turn: the set is the same only if nobody changed.
+                if (next == set) {
+                    return set;
+                }
+                set = next;
+            }
+            return NEVER;
+        }
+
+        private int behindRound(int from) {
+            if (after[from] == NONE) {
+                int set = from;
                 for (int i = 0; i < land.clerks; i++) {
                     if (wantsOtherwise(i, set)) {
                         set ^= 1 << i;
                     }
                 }
-                // Each had one turn: the set is the same only if nobody changed.
-                if (set == before) {
-                    return set;
-                }
+                after[from] = set;
             }
-            return NEVER;
+            return after[from];
         }
 
         /** To change just those who differ always does, so something is found. */

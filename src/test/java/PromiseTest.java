@@ -1,65 +1,5 @@
 /** Each promise of the document by hand: ordinary calls, the edges that it names, wrong calls. */
-public final class PromiseTest {
-    private static final int NOT_A_CLERK = -1000000000;
-    private static int wrong = 0;
-    private static int promise = 0;
-
-    private static void due(String call, int got, int want) {
-        if (got != want) {
-            wrong++;
-            System.out.println("promise " + promise + ": " + call + " answered " + got + ", due is " + want);
-        }
-    }
-
-    private static void due(String call, boolean got, boolean want) {
-        due(call, got ? 1 : 0, want ? 1 : 0);
-    }
-
-    private static void put(StampRoad road, String text) {
-        StringBuilder padded = new StringBuilder(text);
-        while (padded.length() % 20 != 0) {
-            padded.append('?');
-        }
-        for (int k = 0; k < padded.length(); k += 20) {
-            int[] five = new int[5];
-            for (int j = 0; j < 20; j++) {
-                five[j / 4] = five[j / 4] << 8 | padded.charAt(k + j);
-            }
-            road.feed(five[0], five[1], five[2], five[3], five[4]);
-        }
-    }
-
-    private static int way(StampRoad road, int i, String text) {
-        put(road, text);
-        return road.way(i, text.length());
-    }
-
-    private static int law(StampRoad road, String text) {
-        put(road, text);
-        return road.law(text.length());
-    }
-
-    private static int gain(StampRoad road, String text) {
-        put(road, text);
-        return road.gain(text.length());
-    }
-
-    private static StampRoad withClerks(int n) {
-        StampRoad road = new StampRoad();
-        for (int i = 0; i < n; i++) {
-            road.clerk(100 * i, 10 * i);
-        }
-        return road;
-    }
-
-    /** One STEP with CLERK 0 alone, whose WAY is told. */
-    private static StampRoad oneStep(String text) {
-        StampRoad road = withClerks(1);
-        road.step(1, 0);
-        due("way " + text, way(road, 0, text) > 0, true);
-        return road;
-    }
-
+public final class PromiseTest extends Checks {
     public static void main(String[] args) {
         newObject();
         clerks();
@@ -93,14 +33,11 @@ public final class PromiseTest {
         again();
         check();
         count();
-        System.out.println(wrong == 0 ? "all promises hold" : wrong + " answers are not as due");
-        if (wrong != 0) {
-            System.exit(1);
-        }
+        finish("all promises hold");
     }
 
     private static void newObject() {
-        promise = 1;
+        about("promise 1");
         StampRoad road = new StampRoad();
         for (int what = 0; what <= 10; what++) {
             due("count(" + what + ")", road.count(what), what == 8 ? 1 : 0);
@@ -115,7 +52,7 @@ public final class PromiseTest {
     }
 
     private static void clerks() {
-        promise = 2;
+        about("promise 2");
         StampRoad road = new StampRoad();
         due("clerk(-1, 0)", road.clerk(-1, 0), -1);
         due("clerk(1001, 0)", road.clerk(1001, 0), -1);
@@ -131,7 +68,7 @@ public final class PromiseTest {
     }
 
     private static void steps() {
-        promise = 3;
+        about("promise 3");
         StampRoad road = withClerks(2);
         due("step(0, 0)", road.step(0, 0), -1);
         due("step(4, 0)", road.step(4, 0), -1);
@@ -152,7 +89,7 @@ public final class PromiseTest {
     }
 
     private static void seeds() {
-        promise = 4;
+        about("promise 4");
         StampRoad road = new StampRoad();
         due("seed(-1)", road.seed(-1), false);
         due("seed(65536)", road.seed(65536), false);
@@ -164,7 +101,7 @@ public final class PromiseTest {
     }
 
     private static void files() {
-        promise = 5;
+        about("promise 5");
         StampRoad road = withClerks(1);
         due("no STEP", road.file(1, 1, 1), -1);
         road.step(1, 0);
@@ -185,7 +122,7 @@ public final class PromiseTest {
     }
 
     private static void feeds() {
-        promise = 6;
+        about("promise 6");
         StampRoad road = withClerks(1);
         for (int k = 1; k <= 10; k++) {
             due("feed", road.feed(0, 0, 0, 0, 0), 20 * k);
@@ -199,7 +136,7 @@ public final class PromiseTest {
     }
 
     private static void ways() {
-        promise = 7;
+        about("promise 7");
         StampRoad road = withClerks(1);
         put(road, "a1(1=1)");
         due("way(1, 7)", road.way(1, 7), -1);
@@ -238,7 +175,7 @@ public final class PromiseTest {
     }
 
     private static void faults() {
-        promise = 7;
+        about("promise 7");
         fault("b1(1=1)", -1000);
         fault("(1=1)", -1000);
         fault(" a1(1=1)", -1000);
@@ -318,7 +255,7 @@ public final class PromiseTest {
     }
 
     private static void reckoning() {
-        promise = 7;
+        about("promise 7");
         worth("2+3*4", 14);
         worth("20-3-4", 13);
         worth("20-[3-4]", 21);
@@ -374,7 +311,7 @@ public final class PromiseTest {
     }
 
     private static void letters() {
-        promise = 13;
+        about("promise 13");
         String names = "rchmsfpinoyx";
         int[] want = {1, 501, 43, 1, 1, 10, 100, 1, 2, 1, 2, 0};
         for (int k = 0; k < names.length(); k++) {
@@ -396,7 +333,7 @@ public final class PromiseTest {
     }
 
     private static void laws() {
-        promise = 8;
+        about("promise 8");
         StampRoad road = oneStep("a1(1=1)");
         put(road, "g1(1=1)");
         due("law(0)", road.law(0), -1);
@@ -414,7 +351,7 @@ public final class PromiseTest {
     }
 
     private static void gains() {
-        promise = 9;
+        about("promise 9");
         StampRoad road = withClerks(1);
         put(road, "o+1");
         due("gain(0)", road.gain(0), -1);
@@ -445,7 +382,7 @@ public final class PromiseTest {
     }
 
     private static void monthsOfOne() {
-        promise = 10;
+        about("promise 10");
         StampRoad road = oneStep("a60(1=1);w3(1=1)");
         road.file(1, 60, 20);
         road.file(1, 59, 20);
@@ -489,7 +426,7 @@ public final class PromiseTest {
     }
 
     private static void monthsOfMany() {
-        promise = 10;
+        about("promise 10");
         StampRoad road = withClerks(3);
         way(road, 0, "a5(1=1);w1(1=1)");
         way(road, 1, "a4(1=1);w3(1=1)");
@@ -547,7 +484,7 @@ public final class PromiseTest {
     }
 
     private static void monthsOfTelling() {
-        promise = 10;
+        about("promise 10");
         StampRoad road = oneStep("a30(1=1)");
         law(road, "g10(1=1);k200(1=1);bx(c=100);b10(1=1)");
         road.file(0, 100, 0);
@@ -568,7 +505,7 @@ public final class PromiseTest {
     }
 
     private static void fileIs() {
-        promise = 11;
+        about("promise 11");
         StampRoad road = oneStep("a5(1=1)");
         road.month();
         road.file(0, 7, 0);
@@ -588,7 +525,7 @@ public final class PromiseTest {
     }
 
     private static void clerkIs() {
-        promise = 12;
+        about("promise 12");
         StampRoad road = withClerks(2);
         due("has", road.clerkIs(1, 0), 0);
         due("took", road.clerkIs(1, 1), 0);
@@ -601,7 +538,7 @@ public final class PromiseTest {
     }
 
     private static void asks() {
-        promise = 13;
+        about("promise 13");
         StampRoad road = withClerks(3);
         road.step(3, 0);
         road.file(1, 9, 9);
@@ -621,7 +558,7 @@ public final class PromiseTest {
     }
 
     private static void told() {
-        promise = 14;
+        about("promise 14");
         StampRoad road = withClerks(2);
         road.step(1, 0);
         road.file(1, 9, 9);
@@ -644,7 +581,7 @@ public final class PromiseTest {
     }
 
     private static void rests() {
-        promise = 15;
+        about("promise 15");
         StampRoad road = withClerks(3);
         due("no GAIN", road.rest(0), -1);
         due("no GAIN", road.rests(-1), -1);
@@ -655,13 +592,13 @@ public final class PromiseTest {
         due("two", road.rest(3), 0);
         due("no such set", road.rest(8), -1);
         due("no such set", road.rest(-1), -1);
-        promise = 16;
+        about("promise 16");
         due("how many", road.rests(-1), 2);
         due("first", road.rests(0), 0);
         due("second", road.rests(1), 7);
         due("third", road.rests(2), -1);
         due("rests(-2)", road.rests(-2), -1);
-        promise = 17;
+        about("promise 17");
         due("from 1", road.goesTo(1), 0);
         due("from 2", road.goesTo(2), 7);
         due("from 0", road.goesTo(0), 0);
@@ -693,7 +630,7 @@ public final class PromiseTest {
     }
 
     private static void turned() {
-        promise = 18;
+        about("promise 18");
         StampRoad road = withClerks(4);
         due("no GAIN", road.turned(0, 0), -1);
         gain(road, "o*2-3");
@@ -712,12 +649,12 @@ public final class PromiseTest {
     }
 
     private static void values() {
-        promise = 19;
+        about("promise 19");
         StampRoad road = new StampRoad();
         due("value(-1)", road.value(-1), -1);
         due("value(10001)", road.value(10001), -1);
         due("count(5)", road.count(5), 0);
-        promise = 20;
+        about("promise 20");
         due("no VALUES", road.one(0), 0);
         due("no VALUES", road.one(1), 0);
         due("value(0)", road.value(0), 1);
@@ -733,7 +670,7 @@ public final class PromiseTest {
         due("one(1)", road.one(1), 10000);
         due("one(2)", road.one(2), -1);
         due("one(-1)", road.one(-1), -1);
-        promise = 19;
+        about("promise 19");
         for (int k = 6; k <= 20; k++) {
             due("value", road.value(10000), k);
         }
@@ -742,7 +679,7 @@ public final class PromiseTest {
     }
 
     private static void each() {
-        promise = 21;
+        about("promise 21");
         StampRoad road = new StampRoad();
         due("no VALUES", road.each(3, 0), 0);
         for (int v = 1; v <= 20; v++) {
@@ -760,7 +697,7 @@ public final class PromiseTest {
     }
 
     private static void made() {
-        promise = 22;
+        about("promise 22");
         StampRoad road = oneStep("w24(1=1)");
         road.step(1, 0);
         due("nobody", road.made(0, 0), 0);
@@ -786,7 +723,7 @@ public final class PromiseTest {
     }
 
     private static void pages() {
-        promise = 23;
+        about("promise 23");
         StampRoad road = withClerks(1);
         due("no STEP", road.entry(0, 1), -1);
         road.step(1, 0);
@@ -795,7 +732,7 @@ public final class PromiseTest {
         due("entry(-1, 1)", road.entry(-1, 1), -1);
         due("entry(0, -1)", road.entry(0, -1), -1);
         due("entry(0, 10001)", road.entry(0, 10001), -1);
-        promise = 24;
+        about("promise 24");
         due("no ENTRIES", road.middle(0, 0, 0), -2);
         road.entry(0, 40);
         road.entry(1, 7);
@@ -817,7 +754,7 @@ public final class PromiseTest {
         due("middle(-1, 0, 1)", road.middle(-1, 0, 1), -1);
         due("middle(0, 0, 2)", road.middle(0, 0, 2), -1);
         due("middle(0, 0, -1)", road.middle(0, 0, -1), -1);
-        promise = 23;
+        about("promise 23");
         for (int k = 6; k <= 60; k++) {
             due("entry", road.entry(1, k), k);
         }
@@ -826,7 +763,7 @@ public final class PromiseTest {
     }
 
     private static void spans() {
-        promise = 25;
+        about("promise 25");
         StampRoad road = withClerks(3);
         due("go(0, 1, 0, 0)", road.go(0, 1, 0, 0), -1);
         due("go(8, 1, 0, 0)", road.go(8, 1, 0, 0), -1);
@@ -838,7 +775,7 @@ public final class PromiseTest {
         due("go(1, 10, 2, 11)", road.go(1, 10, 2, 11), -1);
         due("go(1, 10, 2, MAX)", road.go(1, 10, 2, Integer.MAX_VALUE), -1);
         due("count(7)", road.count(7), 0);
-        promise = 26;
+        about("promise 26");
         due("of three", road.go(7, 25000, 0, 0), 0);
         due("least", road.span(0, 0), 5000);
         due("greatest", road.span(0, 1), 10000);
@@ -869,12 +806,12 @@ public final class PromiseTest {
         due("turned over", chain.span(0, 0), -2);
         due("turned over", chain.span(4, 1), -2);
         due("no such ones all the same", chain.span(5, 1), -1);
-        promise = 25;
+        about("promise 25");
         for (int k = 4; k < 8; k++) {
             due("go", chain.go(1, 30000, 0, 30000), k);
         }
         due("a ninth", chain.go(1, 1, 0, 0), -1);
-        promise = 26;
+        about("promise 26");
         StampRoad slow = withClerks(2);
         slow.go(3, 10000, 0, 0);
         slow.go(3, 10001, 0, 0);
@@ -882,7 +819,7 @@ public final class PromiseTest {
     }
 
     private static void odds() {
-        promise = 27;
+        about("promise 27");
         StampRoad road = new StampRoad();
         due("above", road.odds(10, 5, 2, 4, 0), 10);
         due("below", road.odds(10, 5, 2, 4, 1), 21);
@@ -904,7 +841,7 @@ public final class PromiseTest {
     }
 
     private static void those() {
-        promise = 28;
+        about("promise 28");
         StampRoad road = new StampRoad();
         due("least", road.those(10, 5, 0, 1, 0), 0);
         due("greatest", road.those(10, 5, 0, 1, 1), 5);
@@ -923,7 +860,7 @@ public final class PromiseTest {
     }
 
     private static void bears() {
-        promise = 29;
+        about("promise 29");
         StampRoad two = withClerks(1);
         two.step(1, 0);
         way(two, 0, "a30(c>0&c<100);a60(c>99)");
@@ -942,7 +879,7 @@ public final class PromiseTest {
     }
 
     private static void again() {
-        promise = 30;
+        about("promise 30");
         StampRoad road = withClerks(2);
         road.step(3, 2);
         road.step(1, 0);
@@ -987,7 +924,7 @@ public final class PromiseTest {
     }
 
     private static void check() {
-        promise = 31;
+        about("promise 31");
         StampRoad road = oneStep("a5(c=9)");
         due("no FILES", road.check(0), -1);
         road.file(0, 9, 0);
@@ -1023,7 +960,7 @@ public final class PromiseTest {
     }
 
     private static void count() {
-        promise = 32;
+        about("promise 32");
         StampRoad road = withClerks(3);
         road.step(1, 0);
         road.step(2, 0);

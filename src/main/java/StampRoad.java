@@ -39,14 +39,14 @@ public final class StampRoad {
     }
 
     public int clerk(int pay, int fear) {
-        if (isOutside(pay, 1000) || isOutside(fear, 100) || land.clerks >= MOST_CLERKS) {
+        if (isOutside(pay, 1000) || isOutside(fear, 100)) {
             return NONE;
         }
         return land.addClerk(pay, fear);
     }
 
     public int step(int clerks, int shape) {
-        if (!land.isCrew(clerks) || isOutside(shape, Land.LOT) || land.steps >= MOST_STEPS || land.files > 0) {
+        if (!land.isCrew(clerks) || isOutside(shape, Land.LOT) || land.files > 0) {
             return NONE;
         }
         return land.addStep(clerks, shape);
@@ -62,10 +62,7 @@ public final class StampRoad {
     }
 
     public int file(int right, int coin, int haste) {
-        if (isOutside(right, 1) || isOutside(coin, MOST_COIN) || isOutside(haste, 200)) {
-            return NONE;
-        }
-        if (land.files >= MOST_FILES || land.steps == 0) {
+        if (isOutside(right, 1) || isOutside(coin, MOST_COIN) || isOutside(haste, 200) || land.steps == 0) {
             return NONE;
         }
         int j = land.addFile(right, coin, haste, play.now);
@@ -209,10 +206,7 @@ public final class StampRoad {
     }
 
     public int value(int v) {
-        if (isOutside(v, MOST_COIN) || hands.values >= Hands.MOST_VALUES) {
-            return NONE;
-        }
-        return hands.addValue(v);
+        return isOutside(v, MOST_COIN) ? NONE : hands.addValue(v);
     }
 
     public int one(int what) {
@@ -240,7 +234,7 @@ public final class StampRoad {
     }
 
     public int entry(int s, int sum) {
-        if (!land.isStep(s) || isOutside(sum, MOST_COIN) || page.entries >= Page.MOST_ENTRIES) {
+        if (!land.isStep(s) || isOutside(sum, MOST_COIN)) {
             return NONE;
         }
         return page.addEntry(s, sum);
@@ -260,9 +254,6 @@ public final class StampRoad {
 
     public int go(int clerks, int price, int a, int b) {
         if (!land.isCrew(clerks) || isOutside(price, MOST_KEPT) || a < 0 || a > b || b > price) {
-            return NONE;
-        }
-        if (betweens.all >= Betweens.MOST) {
             return NONE;
         }
         return betweens.addBetween(clerks, price - b, price - a);

@@ -147,6 +147,17 @@ final class LandEdges extends Edges {
         term("then the lowest),");
         due("of the last two", taker(1, "a4(1=1);w3(1=1)", "a4(1=1);w2(1=1)", "a4(1=1);w2(1=1)"), 2);
         due("of all", taker(1, "a4(1=1)", "a4(1=1)", "a4(1=1)"), 1);
+        about("ANY, among all ten");
+        for (int cheap = 0; cheap < 10; cheap++) {
+            StampRoad road = withClerks(10);
+            road.step(1023, 1);
+            for (int i = 0; i < 10; i++) {
+                way(road, i, i == cheap ? "a1(1=1)" : "a2(1=1)");
+            }
+            road.file(0, 9, 0);
+            due("price", road.month(), 1);
+            due("CLERK " + cheap, road.clerkIs(cheap, 1), 1);
+        }
         term("2 LOT.");
         due("X 39022, modulo 3 1", taker(2, "a4(1=1)", "a4(1=1)", "a4(1=1)"), 2);
     }

@@ -182,6 +182,11 @@ final class MonthEdges extends Edges {
         months(later, 2);
         due("30 times 2, not 29", later.month(), 60);
         due("the first", later.fileIs(0, 3), 60);
+        StampRoad last = oneStep("a9(1=1);w1(1=1)");
+        last.file(1, 9, 9);
+        last.file(1, 9, 8);
+        due("WAIT 1: 9 times 1, not 8", last.month(), 9);
+        due("the first", last.fileIs(0, 3), 9);
         StampRoad greatest = oneStep("a4800(1=1);w24(1=1)");
         greatest.file(1, 4800, 200);
         due("200 times 24", greatest.month(), 4800);
@@ -342,6 +347,11 @@ final class MonthEdges extends Edges {
         due("COIN 0", road.bears(), -1);
         road.month();
         due("it is DONE and PAID nothing", road.bears(), -1);
+        StampRoad idle = oneStep("a9(1=1)");
+        idle.file(0, 8, 0);
+        idle.file(1, 100, 0);
+        idle.month();
+        due("they have COIN, but PAID nothing", idle.bears(), -1);
         term("BEARS most: the FILE that PAID the greatest part of the COIN with which it came");
         promise(29, "BEARS most: the FILE;");
         road.file(0, 10000, 0);
@@ -441,6 +451,32 @@ final class MonthEdges extends Edges {
         due("they do, with other prices", way(road, 0, "a11(1=1)") + road.again(2), 2);
         due("one does not", way(road, 0, "a100(1=1)") + road.again(2), 1);
         due("no FILES", new StampRoad().again(2), 1);
+        StampRoad first = oneStep("w0(1=1)");
+        first.file(1, 0, 0);
+        first.month();
+        first.file(1, 0, 0);
+        due("the first is DONE", first.again(0), 1);
+        way(first, 0, "w1(1=1)");
+        due("the first alone stands elsewhere", first.again(2), 0);
+        way(first, 0, "w0(1=1)");
+        first.file(1, 0, 0);
+        months(first, 1);
+        way(first, 0, "w1(y=1)");
+        due("the others alone stand elsewhere", first.again(2), 0);
+        StampRoad often = withClerks(2);
+        often.step(3, 2);
+        often.step(1, 0);
+        way(often, 0, "an*10+o+1(1=1)");
+        way(often, 1, "an*20+o+2(1=1)");
+        often.file(0, 10000, 0);
+        often.file(0, 10000, 0);
+        int paid = often.month();
+        often.file(0, 10000, 0);
+        paid += often.month();
+        for (int k = 0; k < 3; k++) {
+            due("as often as one asks", often.again(1), paid);
+            due("as often as one asks", often.again(0), 2);
+        }
         promise(30, "NONE for others.");
         due("what -1", road.again(-1), -1);
         due("what 3", road.again(3), -1);

@@ -137,6 +137,8 @@ final class PriceEdges extends Edges {
         due("one is left behind", standing(1, 40, 10, 1, 10000, 9).made(0, 1), 216);
         due("both together", standing(1, 40, 10, 1, 45, 9).made(0, 1), 76);
         due("not one", standing(1, 9, 10).made(0, 0), 0);
+        due("just one", standing(1, 1, 1).made(0, 0), 1);
+        due("just one", standing(1, 1, 1).made(0, 1), 1);
         term("of like ones the least. A PAGE");
         due("4 MONTHS of two, or 8 of one", standing(1, 40, 10, 1, 80, 10).made(0, 0), 4);
         due("HASTE 0", standing(1, 10000, 0).made(0, 0), 0);

@@ -9,6 +9,7 @@ final class TextEdges extends Edges {
     static void run() {
         feeds();
         ways();
+        oneBehindTheOther();
         longTexts();
         laws();
         gains();
@@ -88,6 +89,45 @@ final class TextEdges extends Edges {
         due("the tape stays", road.count(4), 20);
         due("7 of 20", road.way(0, 7), 1);
         due("1 of 0", road.way(0, 1), -1);
+    }
+
+    /** What was read before, right or wrong, deep or long, leaves nothing behind for what is read next. */
+    private static void oneBehindTheOther() {
+        about("TEXTS told one behind the other");
+        StampRoad road = oneStep("a1(1=1)");
+        road.file(1, 9, 9);
+        String deep = "a[[[[[[7]]]]]](((((([0]=0))))))";
+        for (int k = 0; k < 12; k++) {
+            due("too deep", way(road, 0, deep), -5020);
+            due("not closed", way(road, 0, "a[[[[[[7"), -1008);
+            due("as deep as can be", way(road, 0, "a[[[[[[7]]]]]](!!!!!1=2)"), 1);
+            due("five ! turn it five times", road.asks(0, 0, 0), 7);
+        }
+        for (int k = 0; k < 12; k++) {
+            due("three", way(road, 0, "w1(1=1);w" + k + "(1=1);a3(1=1)"), 3);
+            due("its price", road.asks(0, 0, 0), 3);
+            due("one", way(road, 0, "w" + k + "(1=1)"), 1);
+            due("no price of the ones before", road.asks(0, 0, 0), 0);
+            due("its WAIT", road.asks(0, 0, 1), k);
+        }
+        // Where the third CLAUSE stood two TEXTS ago, the second one's E and C stand now.
+        way(road, 0, "w1(1=1);w2(1=1);a3(1=1)");
+        way(road, 0, "a9(1=1)");
+        due("two", way(road, 0, "w1+1+1(1=1);w5(1=1)"), 2);
+        due("no price of the third of before", road.asks(0, 0, 0), 0);
+        StampRoad others = withClerks(2);
+        others.step(3, 0);
+        others.file(1, 9, 9);
+        for (int k = 0; k < 12; k++) {
+            way(others, 0, "a" + k + "(1=1)");
+            law(others, "k" + 2 * k + "(1=1);g5(1=2)");
+            gain(others, "i*2-" + k);
+            way(others, 1, "a" + 3 * k + "(1=1);w4(1=1)");
+            due("of CLERK 0", others.asks(0, 0, 0), k);
+            due("of CLERK 1", others.asks(1, 0, 0), 3 * k);
+            due("of THE LAW", others.told(0, 0, 0, 1), 2 * k);
+            due("of GAIN", others.goesTo(0), k < 2 ? 2 : 0);
+        }
     }
 
     /** So many bytes: one CLAUSE whose C goes on and on. */
@@ -384,6 +424,20 @@ final class TextEdges extends Edges {
         holds("2=2", true);
         holds("2=3", false);
         holds("1+1=4/2", true);
+        holds("!1<2", false);
+        holds("!2<1", true);
+        holds("!2>1", false);
+        holds("!1>2", true);
+        holds("!!1<2", true);
+        about("a C as long as a TEXT can be");
+        holds("1=1&".repeat(38) + "1=1", true);
+        holds("1=1&".repeat(38) + "1=2", false);
+        holds("1=2|".repeat(38) + "1=1", true);
+        holds("1=2|".repeat(38) + "1=2", false);
+        holds("1=1&1=2|".repeat(19) + "1=1", true);
+        about("as many as can be wait for what is behind them");
+        worth("1+1*[1+1*[1+1*[1+1*[1+1*[1+1*[1+1*1]]]]]]", 8);
+        holds("1+1*[1+1*[1+1*[1+1*[1+1*[1+1*1]]]]]=1+1*[1+1*[1+1*[1+1*[1+1*[1+1*1]]]]]", true);
     }
 
     private static void bits() {

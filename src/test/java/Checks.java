@@ -73,6 +73,20 @@ abstract class Checks {
         return road;
     }
 
+    /** The price that "a" and this E come to, for a FILE with COIN 500. */
+    static void worth(String sum, int want) {
+        StampRoad road = oneStep("a" + sum + "(1=1)");
+        road.file(1, 500, 9);
+        due(sum, road.asks(0, 0, 0), want);
+    }
+
+    /** Whether a C holds, for such a FILE. */
+    static void holds(String condition, boolean want) {
+        StampRoad road = oneStep("a7(" + condition + ")");
+        road.file(1, 500, 9);
+        due(condition, road.asks(0, 0, 0), want ? 7 : 0);
+    }
+
     static void months(StampRoad road, int n) {
         for (int y = 0; y < n; y++) {
             road.month();

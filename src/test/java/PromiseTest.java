@@ -242,18 +242,6 @@ public final class PromiseTest extends Checks {
         fault("a1((((((]1=1))))))", -1008);
     }
 
-    private static void worth(String sum, int want) {
-        StampRoad road = oneStep("a" + sum + "(1=1)");
-        road.file(1, 500, 9);
-        due(sum, road.asks(0, 0, 0), want);
-    }
-
-    private static void holds(String condition, boolean want) {
-        StampRoad road = oneStep("a7(" + condition + ")");
-        road.file(1, 500, 9);
-        due(condition, road.asks(0, 0, 0), want ? 7 : 0);
-    }
-
     private static void reckoning() {
         about("promise 7");
         worth("2+3*4", 14);

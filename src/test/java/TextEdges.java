@@ -364,19 +364,6 @@ final class TextEdges extends Edges {
         due("a seventh (", read(WAY, "a[[[[[[1]]]]]](((((((1=1)))))))"), -5020);
     }
 
-    /** The price that "a" and this E come to, for a FILE with COIN 500. */
-    private static void worth(String sum, int want) {
-        StampRoad road = oneStep("a" + sum + "(1=1)");
-        road.file(1, 500, 9);
-        due(sum, road.asks(0, 0, 0), want);
-    }
-
-    private static void holds(String condition, boolean want) {
-        StampRoad road = oneStep("a7(" + condition + ")");
-        road.file(1, 500, 9);
-        due(condition, road.asks(0, 0, 0), want ? 7 : 0);
-    }
-
     private static void sums() {
         term("E: TERMS with + or - between two; a TERM: FACTORS with one of * / % between two; from the left on;");
         worth("9-3-2", 4);

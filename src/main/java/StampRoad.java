@@ -515,11 +515,6 @@ public final class StampRoad {
             return true;
         }
 
-        private boolean leave(char due) {
-            open--;
-            return take(due);
-        }
-
         private boolean readClause(int k, String heads) {
             if (!sees(heads)) {
                 return fail(MISPLACED);
@@ -537,9 +532,10 @@ public final class StampRoad {
             if (sign != '(') {
                 return fail(MISPLACED);
             }
-            if (!enter() || !readParts() || !leave(')')) {
+            if (!enter() || !readParts() || !take(')')) {
                 return false;
             }
+            open--;
             out.end[k] = out.length;
             out.clauses = k + 1;
             return true;
@@ -569,7 +565,9 @@ public final class StampRoad {
 
         private boolean readPiece() {
             if (sign == '(') {
-                return enter() && readParts() && leave(')');
+                boolean stands = enter() && readParts() && take(')');
+                open--;
+                return stands;
             }
             if (sign == '!') {
                 boolean stands = enter() && readPiece();
@@ -614,7 +612,9 @@ public final class StampRoad {
 
         private boolean readFactor() {
             if (sign == '[') {
-                return enter() && readTerms() && leave(']');
+                boolean stands = enter() && readTerms() && take(']');
+                open--;
+                return stands;
             }
             if (seesDigit()) {
                 return readNumber();

@@ -9,11 +9,16 @@ import java.util.Set;
 import java.util.TreeSet;
 import java.util.regex.Matcher;
 import java.util.regex.Pattern;
+import javax.lang.model.element.Element;
 
 /** Whether the class has just the document's face and keeps to those rules of LANGUAGE.md that can be told by looking. */
 public final class LanguageTest {
     private static final Path SOURCE = Path.of("src/main/java/StampRoad.java");
     private static final Path DOCUMENT = Path.of("../shared/DOC.md");
+    /** What the class uses of that which the rules allow (the first one each constructor calls unsaid). */
+    private static final Set<String> LIBRARY = Set.of("java.lang.Object.<init>", "java.util.Arrays.fill",
+        "java.lang.Integer.bitCount", "java.lang.Math.max", "java.lang.Math.min", "java.lang.String.indexOf",
+        "java.lang.String.charAt");
     private static int wrong = 0;
 
     private static void due(boolean holds, String what) {
@@ -31,6 +36,7 @@ public final class LanguageTest {
         nested();
         words(source, code);
         lengths(code);
+        calls();
         System.out.println(wrong == 0 ? "the face and the language are as due" : wrong + " things are not as due");
         if (wrong != 0) {
             System.exit(1);
@@ -122,6 +128,20 @@ public final class LanguageTest {
                 from = -1;
             }
             due(lines[k].length() <= 120, "a long line: " + lines[k]);
+        }
+    }
+
+    private static void calls() throws Exception {
+        Calls calls = new Calls(SOURCE);
+        for (String name : calls.foreign) {
+            due(LIBRARY.contains(name), name + " is called");
+        }
+        due(calls.methods().size() > 100, "only " + calls.methods().size() + " methods were found");
+        for (Element method : calls.methods()) {
+            List<Element> chain = calls.deepestFrom(method);
+            due(chain.size() <= 8, "calls go " + chain.size() + " deep: " + chain);
+            boolean isOfParser = method.getEnclosingElement().getSimpleName().contentEquals("Parser");
+            due(isOfParser || !calls.comesBackTo(method), method + " comes back to itself: only brackets may");
         }
     }
 
